@@ -614,7 +614,7 @@ public final class PageLayout {
             number = 0;
             int first = 0;
             while (first < lines.number) {
-                int behind = Math.max(first + 1, pageBehind(first, standLines(first)));
+                int behind = Math.max(first + 1, pageBehind(first));
                 addPage(first, behind);
                 first = behind;
             }
@@ -630,14 +630,28 @@ public final class PageLayout {
             number++;
         }
 
+        /** The line ahead of which the page ends that begins with a line. */
+        private int pageBehind(int first) {
+            int can = standLines(first);
+            if (can >= lines.number || mustEndAhead(can)) {
+                return can;
+            }
+            for (int i = can; i > first; i--) {
+                if (mayEndAhead(i)) {
+                    return i;
+                }
+            }
+            return can;
+        }
+
         /**
-         * Stands the lines that a page can have below one another: the line behind them. Those of
-         * them that the page does not get are stood anew on the next one.
+         * Stands the lines that a page can have below one another, but none behind where it ends:
+         * the line behind them. Those that the page gives back are stood anew on the next one.
          */
         private int standLines(int first) {
             lines.told[LINE_DOWN][first] = 0;
             int behind = first + 1;
-            while (behind < lines.number) {
+            while (behind < lines.number && !mustEndAhead(behind)) {
                 lines.told[LINE_DOWN][behind] = bottomOf(behind - 1) + spaceAhead(behind);
                 if (bottomOf(behind) > sheet.high) {
                     break;
@@ -660,23 +674,6 @@ public final class PageLayout {
 
         private Paragraph paragraphOf(int which) {
             return text.paragraph[lines.told[LINE_PARAGRAPH][which]];
-        }
-
-        /** The line ahead of which a page ends that can have the lines from first up to can. */
-        private int pageBehind(int first, int can) {
-            for (int i = first + 1; i <= can && i < lines.number; i++) {
-                if (mustEndAhead(i)) {
-                    return i;
-                }
-            }
-            if (can < lines.number) {
-                for (int i = can; i > first; i--) {
-                    if (mayEndAhead(i)) {
-                        return i;
-                    }
-                }
-            }
-            return can;
         }
 
         private boolean mustEndAhead(int which) {

@@ -88,6 +88,7 @@ public final class LinesTest {
         CHECKS.dueSigns("as the last one", x, 2, 10, 10, 6, 10, 10);
         CHECKS.dueLines("as the last one", x, 4, 26, 20);
         dueSplit("it doesn't fit", 25, "x xx~xx", 2, 3, 2);
+        dueSplit("it doesn't fit behind one that does", 25, "x~x~xx", 2, 2, 2);
         dueSplit("it doesn't fit, but what is behind does", 24, "xx~i xx", 5, 2);
         x = dueSplit("ahead of a line end", 26, "xx~/", 4);
         CHECKS.dueLines("ahead of a line end", x, 4, 20);
@@ -170,6 +171,21 @@ public final class LinesTest {
         Checks.write(y, ">");
         y.lay();
         CHECKS.due("stops are of one paragraph", 50, y.where(3, 2));
+        PageLayout all = Checks.written(300, ">>>>>>>>>x");
+        for (int i = 1; i <= 8; i++) {
+            all.stop(0, i * 20, i % 3);
+        }
+        all.lay();
+        CHECKS.due("the last of 8", 160, all.where(8, 1));
+        CHECKS.due("a step behind 8", 40, all.where(8, 2));
+        all.clear();
+        all.paragraph();
+        Checks.write(all, ">x");
+        all.lay();
+        CHECKS.due("a step where a stop was", 50, all.where(0, 2));
+        all.sheet(300, 100, 1);
+        all.lay();
+        CHECKS.due("the least step", 1, all.where(0, 2));
     }
 
     private static void stopsThatEndAndCentre() {
@@ -228,6 +244,10 @@ public final class LinesTest {
         x.stop(0, 80, 1);
         x.lay();
         CHECKS.due("the last one counts", 54, x.where(0, 2));
+        PageLayout within = Checks.written(300, ">x~x");
+        within.stop(0, 80, 1);
+        within.lay();
+        CHECKS.due("one within doesn't", 60, within.where(0, 2));
         PageLayout y = Checks.written(79, ">xxxx~xxx~x x");
         y.stop(0, 50, 1);
         dueSplit("a tab gives way", y, 10, 3);
@@ -297,6 +317,11 @@ public final class LinesTest {
         dueSplit("behind the last tab", x, 9, 6, 5);
         CHECKS.dueLines("behind the last tab", x, 9, 26, 0, 0);
         CHECKS.dueSigns("behind the last tab", x, 2, 10, 4, 10, 4, 22, 10, 30, 10, 4);
+        PageLayout ahead = Checks.written(30, "x x>x x");
+        ahead.shape(0, 5, 3);
+        dueSplit("ahead of a tab", ahead, 3, 3, 1);
+        CHECKS.dueLines("ahead of a tab", ahead, 9, 6, 0, 0);
+        CHECKS.due("ahead of a tab", 10, ahead.where(1, 2));
         PageLayout ends = Checks.written(100, "x x/x x|x x");
         ends.shape(0, 5, 3);
         ends.lay();

@@ -13,6 +13,8 @@ public final class PagesTest {
         keptWithNext();
         keptTogether();
         widows();
+        fewerLines();
+        mostLines();
         ruleOrder();
         wrongQuestions();
         hitLines();
@@ -122,6 +124,12 @@ public final class PagesTest {
         x.shape(0, 8, 1);
         x.sheet(100, 16, 50);
         duePages("right behind the second page's", x, 2, 1, 1);
+        PageLayout y = roomFor(3);
+        Checks.paragraphOf(y, 1);
+        y.paragraph();
+        Checks.write(y, "x/x|x");
+        y.shape(1, 7, 1);
+        duePages("right behind them, where it may not end", y, 3, 1);
     }
 
     private static void pageBegins() {
@@ -159,6 +167,11 @@ public final class PagesTest {
         duePages("nowhere may it end", x, 3, 1);
         x.shape(2, 6, 1);
         duePages("the last one has no next", x, 3, 1);
+        PageLayout y = roomFor(5);
+        Checks.paragraphOf(y, 1);
+        Checks.paragraphOf(y, 1);
+        y.shape(1, 6, 1);
+        duePages("all that are left, the last one kept with none", y, 2);
     }
 
     private static void keptTogether() {
@@ -199,6 +212,39 @@ public final class PagesTest {
         z.shape(0, 8, 1);
         z.shape(1, 8, 1);
         duePages("first and last lines next to paragraphs", z, 2, 2);
+        PageLayout first = roomFor(4);
+        Checks.paragraphOf(first, 5);
+        Checks.paragraphOf(first, 2);
+        first.shape(0, 8, 1);
+        duePages("not ahead of the last line, with a paragraph behind", first, 3, 4);
+    }
+
+    /** A layout with fewer lines than the one before it. */
+    private static void fewerLines() {
+        PageLayout x = Checks.written(10, "x x x x x x x x");
+        x.shape(0, 8, 1);
+        x.lay();
+        CHECKS.due("narrow", 8, x.count(2));
+        x.sheet(24, 24, 50);
+        duePages("wide", x, 2, 2);
+        CHECKS.thrown("line(4, 0)", Checks.NO_SUCH, () -> x.line(4, 0));
+    }
+
+    /** More calls than are promised, but no call may ever fail by itself. */
+    private static void mostLines() {
+        PageLayout x = roomFor(1);
+        x.paragraph();
+        for (int i = 0; i < 600; i++) {
+            x.sign(5, 0, 8);
+        }
+        for (int i = 0; i < 29; i++) {
+            x.paragraph();
+            x.shape(i + 1, 10, 8);
+        }
+        CHECKS.due("the most pages", 629, x.lay());
+        CHECKS.due("the most lines", 629, x.count(2));
+        CHECKS.due("the last page", 628, x.page(628, 0));
+        CHECKS.due("behind all signs", 600, x.hit(628, 0, 0));
     }
 
     private static void ruleOrder() {
