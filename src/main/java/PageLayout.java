@@ -395,7 +395,7 @@ public final class PageLayout {
 
         /** The end of the line if this sign, the latest that was added, is its last one. */
         int endBehind(int at) {
-            return text.kind[at] == SOFT ? endWith(widths + text.width[at]) : leastEnd();
+            return endWith(text.kind[at] == SOFT ? widths + text.width[at] : solidWidths);
         }
 
         private void beginStretch(int at) {

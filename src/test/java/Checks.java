@@ -23,6 +23,15 @@ final class Checks {
         }
     }
 
+    void due(String call, String want, String got) {
+        if (got.equals(want)) {
+            right++;
+        } else {
+            wrong++;
+            System.out.println(call + " answered " + got + ", due is " + want);
+        }
+    }
+
     void thrown(String call, Class<?> want, Call made) {
         Class<?> got = null;
         try {
@@ -47,6 +56,21 @@ final class Checks {
         for (int i = 0; i < want.length; i++) {
             due(told + ": line(" + i + ", " + what + ")", want[i], x.line(i, what));
         }
+    }
+
+    /** Lays out: the lines have so many signs, and there are no more lines. */
+    void dueSplit(String told, PageLayout x, int... want) {
+        x.lay();
+        due(told + ": count(2)", want.length, x.count(2));
+        if (x.count(2) == want.length) {
+            dueLines(told, x, 2, want);
+        }
+    }
+
+    /** Lays out: the pages have so many lines, and there are no more pages. */
+    void dueFilled(String told, PageLayout x, int... want) {
+        due(told + ": lay()", want.length, x.lay());
+        duePages(told, x, 1, want);
     }
 
     void dueSigns(String told, PageLayout x, int what, int... want) {
@@ -82,6 +106,13 @@ final class Checks {
         x.paragraph();
         write(x, text);
         return x;
+    }
+
+    /** Adds one sign to the last paragraph for each kind, all of one height, so wide. */
+    static void signs(PageLayout x, int[] kinds, int... widths) {
+        for (int i = 0; i < kinds.length; i++) {
+            x.sign(kinds[i], widths[i], HEIGHT);
+        }
     }
 
     /** Adds a paragraph of so many lines, each HEIGHT high. */

@@ -32,11 +32,7 @@ public final class LinesTest {
     }
 
     private static void dueSplit(String told, PageLayout x, int... want) {
-        x.lay();
-        CHECKS.due(told + ": count(2)", want.length, x.count(2));
-        if (x.count(2) == want.length) {
-            CHECKS.dueLines(told, x, 2, want);
-        }
+        CHECKS.dueSplit(told, x, want);
     }
 
     private static void breaks() {

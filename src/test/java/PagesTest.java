@@ -33,8 +33,7 @@ public final class PagesTest {
 
     /** How many lines the pages have, these being all the pages. */
     private static void duePages(String told, PageLayout x, int... want) {
-        CHECKS.due(told + ": lay()", want.length, x.lay());
-        CHECKS.duePages(told, x, 1, want);
+        CHECKS.dueFilled(told, x, want);
     }
 
     private static void noParagraphs() {

@@ -163,8 +163,9 @@ final class PlainLayout {
             }
         }
         if (least == null) {
-            least = new Stop();
             int last = p.stops.isEmpty() ? 0 : p.stops.get(p.stops.size() - 1).place;
+            least = new Stop();
+            least.place = at / step * step;
             while (least.place <= last || least.place <= at) {
                 least.place += step;
             }
